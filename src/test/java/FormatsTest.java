@@ -94,6 +94,9 @@ public final class FormatsTest {
         }
         faulty("form A", 1, 0);
         faulty("formats A", 1, 0);
+        faulty("formatz A", 1, 0);
+        faulty("aormat A", 1, 0);
+        faulty("formaz A", 1, 0);
         faulty("Format A", 1, 0);
         faulty("A", 1, 0);
         faulty("7", 1, 0);
