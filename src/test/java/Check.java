@@ -2,6 +2,16 @@ import java.nio.charset.StandardCharsets;
 
 /** What the tests share: comparing answers, feeding texts, and the closing exit code. */
 final class Check {
+    /** One call of the face. */
+    interface Call {
+        int on(SkiShots x);
+    }
+
+    /** Makes the same object each time, by the same calls. */
+    interface World {
+        SkiShots make();
+    }
+
     private int calls = 0;
     private int wrong = 0;
 
@@ -29,6 +39,26 @@ final class Check {
     void dueLook(SkiShots x, int race, int what, String want) {
         String got = look(x, race, what);
         that("look(" + race + ", " + what + ") answered " + got + ", due is " + want + ":", got.equals(want));
+    }
+
+    /** The call answers so, and leaves all that can be asked as it is in a twin without the call. */
+    void leavesAll(String what, World world, int answer, Call call) {
+        SkiShots x = world.make();
+        due(what, call.on(x), answer);
+        dueTwin(what, x, world.make());
+    }
+
+    /** look() throws this, and leaves all as it is in a twin without the call. */
+    void lookLeavesAll(World world, int race, int what, String want) {
+        SkiShots x = world.make();
+        dueLook(x, race, what, want);
+        dueTwin("look(" + race + ", " + what + ")", x, world.make());
+    }
+
+    private void dueTwin(String what, SkiShots x, SkiShots twin) {
+        String got = Picture.of(x);
+        String want = Picture.of(twin);
+        that(what + " leaves all as it was:\n" + got + "and not\n" + want, got.equals(want));
     }
 
     /** Feeds the text, filled up to whole calls with zeros behind it; answers its length. */
