@@ -1,4 +1,4 @@
-/** All that can be asked of an object, as one text; the object is used up by it. */
+/** What can be asked of an object, on day 0 and today, as one text; the object is used up by it. */
 final class Picture {
     private static final int NAMES = 8;
     private static final int NATIONS = 8;
