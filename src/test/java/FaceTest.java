@@ -3,6 +3,8 @@ import java.lang.reflect.Field;
 import java.lang.reflect.Method;
 import java.lang.reflect.Modifier;
 import java.util.Arrays;
+import java.util.List;
+import java.util.NoSuchElementException;
 import java.util.Set;
 import java.util.TreeSet;
 
@@ -21,6 +23,7 @@ public final class FaceTest {
                 names.add(method.getName());
                 CHECK.that(method + " answers an int", method.getReturnType() == int.class);
                 CHECK.that(method + " is no static one", !Modifier.isStatic(method.getModifiers()));
+                thrown(method);
             }
         }
         CHECK.that("the methods of the face: " + face, String.join(" ", face).equals(FACE));
@@ -29,6 +32,12 @@ public final class FaceTest {
         fields();
         inside(names);
         CHECK.end();
+    }
+
+    private static void thrown(Method method) {
+        List<Class<?>> due = method.getName().equals("look")
+                ? List.of(IndexOutOfBoundsException.class, NoSuchElementException.class) : List.of();
+        CHECK.that(method + " says that it throws " + due, Arrays.asList(method.getExceptionTypes()).equals(due));
     }
 
     private static void hiddenMethods(Class<?> where, Set<String> names, boolean outer) {
@@ -51,8 +60,10 @@ public final class FaceTest {
             CHECK.that(field + " is private", isNone ? Modifier.isPublic(modifiers) : Modifier.isPrivate(modifiers));
             CHECK.that(field + " is final if static", !Modifier.isStatic(modifiers) || Modifier.isFinal(modifiers));
         }
-        Constructor<?>[] makers = SkiShots.class.getConstructors();
-        CHECK.that("one constructor", makers.length == 1 && makers[0].getParameterCount() == 0);
+        CHECK.due("NONE", SkiShots.NONE, -1);
+        Constructor<?>[] makers = SkiShots.class.getDeclaredConstructors();
+        CHECK.that("one constructor, a public one", makers.length == 1 && makers[0].getParameterCount() == 0
+                && Modifier.isPublic(makers[0].getModifiers()));
     }
 
     private static void inside(Set<String> names) {
